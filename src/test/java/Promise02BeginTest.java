@@ -94,8 +94,7 @@ public final class Promise02BeginTest {
         boiler.readings(300, 0, 1, 0).say(Boiler.STOP).acknowledge(2).cycle(BoilerDesk.INITIAL).detected(4);
         boiler.readings(300, 0, 14, 0).say(Boiler.STOP).acknowledge(2).cycle(BoilerDesk.INITIAL).acknowledged(4);
         boiler.readings(300, 0, 14, 14).say(Boiler.READY).repair(2);
-        begin(boiler.desk, SOUND);
-        boiler.states(0, 1000, 0, 50, 0, 0, 0, 0, 0, 0).toldNothing();
+        beginsLikeNew(boiler);
         // Neither the two STOPs nor WAITING are remembered, nor is what was received for the next cycle.
         boiler.quiet(300, 7).say(Boiler.STOP).cycle(BoilerDesk.INITIAL).commands(0, 0).repaired(0).state(9, 1);
         boiler.quiet(300, 7);
@@ -103,6 +102,22 @@ public final class Promise02BeginTest {
         boiler.cycle(BoilerDesk.STOPPED);
         begin(boiler.desk, SOUND);
         boiler.states(0, 1000, 0, 50, 0, 0, 0, 0, 0, 0).quiet(500, 0).cycle(BoilerDesk.INITIAL);
+        forgetsWhatWasTold();
+    }
+
+    private static void forgetsWhatWasTold() {
+        Boiler open = new Boiler(CHECKS, "valve open and a pump failed").readings(700, 0, 1, 0).say(Boiler.WAITING);
+        open.cycle(BoilerDesk.INITIAL).told(1, 1).detected(1 << 2).state(7, 1);
+        beginsLikeNew(open);
+        Boiler ready = new Boiler(CHECKS, "repaired and PROGRAM READY").readings(300, 0, 1, 0).say(Boiler.WAITING);
+        ready.cycle(BoilerDesk.INITIAL).commands(14, 0);
+        ready.readings(500, 0, 14, 0).repair(2).cycle(BoilerDesk.INITIAL).commands(0, 14).repaired(1 << 2).told(4, 1);
+        beginsLikeNew(ready);
+    }
+
+    private static void beginsLikeNew(Boiler boiler) {
+        begin(boiler.desk, SOUND);
+        boiler.states(0, 1000, 0, 50, 0, 0, 0, 0, 0, 0).toldNothing();
     }
 
     private static void changesNothingWhenItThrows() {

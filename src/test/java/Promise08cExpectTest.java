@@ -83,6 +83,10 @@ public final class Promise08cExpectTest {
         Boiler teller = boiler("teller repaired").started(500).readings(500, 0, 0, 0b0001).cycle(BoilerDesk.DEGRADED);
         teller.quiet(-1, 0).repair(6).cycle(BoilerDesk.RESCUE).failed(Boiler.LEVEL).levelFrom(495, 515);
         teller.quiet(-1, 0).cycle(BoilerDesk.RESCUE).levelFrom(490, 515);
+        Boiler on = boiler("repaired while on").startedPumping(300, 400);
+        on.readings(400, 0, 0b1110, Boiler.ALL).cycle(BoilerDesk.DEGRADED).failed(Boiler.pumpUnit(0)).pumpsOn(15);
+        on.readings(-1, 0, Boiler.ALL, Boiler.ALL).repair(2).cycle(BoilerDesk.RESCUE).levelFrom(440, 460);
+        on.readings(-1, 0, Boiler.ALL, Boiler.ALL).cycle(BoilerDesk.RESCUE).levelFrom(495, 520);
         // A pump that fails only now still was good at the end of the cycle before.
         boiler("pump failing now").started(500).readings(501, 0, 0b0001, 0).cycle(BoilerDesk.RESCUE)
                 .failed(Boiler.LEVEL | Boiler.pumpUnit(0)).levelFrom(495, 500);

@@ -43,5 +43,12 @@ public final class Promise09ToldTest {
         Boiler boiler = new Boiler(CHECKS, "STOPPED").quiet(500, 0).say(Boiler.WAITING).cycle(BoilerDesk.INITIAL);
         boiler.told(4, 1).cycle(BoilerDesk.STOPPED).toldNothing();
         boiler.readings(-1, -1, 15, 15).repair(1).cycle(BoilerDesk.STOPPED).toldNothing();
+        new Boiler(CHECKS, "STOPPED behind a pump's SHUT").startedPumping(300, 600).readings(610, 0, 15, 15)
+                .cycle(BoilerDesk.NORMAL).commands(0, 15).cycle(BoilerDesk.STOPPED).toldNothing();
+        new Boiler(CHECKS, "STOPPED behind the valve's SHUT").quiet(700, 0).say(Boiler.WAITING)
+                .cycle(BoilerDesk.INITIAL).told(1, 1).quiet(500, 0).cycle(BoilerDesk.INITIAL).told(1, 2)
+                .cycle(BoilerDesk.STOPPED).toldNothing();
+        new Boiler(CHECKS, "pumps as they were behind their SHUT").startedPumping(300, 600).readings(601, 0, 15, 15)
+                .cycle(BoilerDesk.NORMAL).commands(0, 15).quiet(599, 0).cycle(BoilerDesk.NORMAL).toldNothing();
     }
 }
