@@ -3,6 +3,10 @@ final class Checks {
     private int made;
     private int wrong;
 
+    int made() {
+        return made;
+    }
+
     void equal(String what, int got, int want) {
         made++;
         if (got != want) {
