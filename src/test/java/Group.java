@@ -30,7 +30,7 @@ abstract class Group {
         checks.illegalArgument(named(what), call);
     }
 
-    /** A boiler in which just this unit has failed, not acknowledged; the level was 500, steam 0, all pumps are shut. */
+    /** Just this unit has failed, and was not acknowledged; the level was 500, steam 0, all pumps are shut. */
     final Boiler withFailed(int unit, String name) {
         Boiler boiler = boiler(name + ", unit " + unit).started(500);
         int on = unit >= 2 && unit < 6 ? 1 << unit - 2 : 0;

@@ -83,7 +83,8 @@ public final class LanguageTest {
         int changing = 0;
         for (Field field : one.getDeclaredFields()) {
             if (Modifier.isStatic(field.getModifiers())) {
-                CHECKS.holds("rule 5: " + field, Modifier.isFinal(field.getModifiers()) && field.getType() == int.class);
+                CHECKS.holds("rule 5: " + field,
+                        Modifier.isFinal(field.getModifiers()) && field.getType() == int.class);
             } else {
                 changing++;
             }

@@ -94,7 +94,8 @@ final class StepGCommand extends Group {
                 .quiet(600, 0).cycle(Boiler.NORMAL).told(1, 0).state(7, 0);
         boiler("in DEGRADED, too").readings(700, 0, 1, 0).say(Boiler.WAITING).cycle(Boiler.INITIAL).state(7, 1)
                 .quiet(600, 0).say(Boiler.READY).cycle(Boiler.DEGRADED).told(1, 2).state(7, 0);
-        boiler("above N2").startedPumping(300, 600).readings(640, 0, 15, 15).cycle(Boiler.NORMAL).told(1, 0).state(7, 0);
+        boiler("above N2").startedPumping(300, 600).readings(640, 0, 15, 15).cycle(Boiler.NORMAL)
+                .told(1, 0).state(7, 0);
     }
 
     private void above() {
