@@ -123,9 +123,9 @@ final class Terms1Constants extends Group {
         steamAfter(4, 1, 0, 1, true);
         steamAfter(4, 1, 0, 2, false);
         steamAfter(100000, 100000, 0, 100000, true);
-        Boiler risen = boiler("U2 2").begin(1000000, 0, 400000, 600000, 1000000, 9, 9, 2, 1).started(500000);
-        risen.quiet(499999, 9).cycle(Boiler.NORMAL).quiet(499990, 7).cycle(Boiler.NORMAL).failed(0);
-        risen.quiet(499983, 4).cycle(Boiler.DEGRADED).failed(Boiler.STEAM);
+        Boiler falling = boiler("U2 2").begin(1000000, 0, 400000, 600000, 1000000, 9, 9, 2, 1).started(500000);
+        falling.quiet(499999, 9).cycle(Boiler.NORMAL).quiet(499990, 7).cycle(Boiler.NORMAL).failed(0);
+        falling.quiet(499983, 4).cycle(Boiler.DEGRADED).failed(Boiler.STEAM);
         Boiler stays = boiler("U2 0").begin(1000000, 0, 400000, 600000, 1000000, 9, 9, 0, 1).started(500000);
         stays.quiet(499999, 9).cycle(Boiler.NORMAL).quiet(499990, 9).cycle(Boiler.NORMAL).failed(0);
         stays.quiet(499981, 8).cycle(Boiler.DEGRADED).failed(Boiler.STEAM);
