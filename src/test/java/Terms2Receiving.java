@@ -98,8 +98,7 @@ final class Terms2Receiving extends Group {
                 .repaired(1 << 2).failed(1 << 4).acknowledged(1 << 4);
     }
 
-    private void receivesWhileStopped() {
-        Boiler boiler = boiler("all kinds").cycle(Boiler.STOPPED);
+    private static Boiler receiveAllKinds(Boiler boiler) {
         boiler.readings(500, 7, Boiler.ALL, Boiler.ALL);
         for (int word = 0; word <= 2; word++) {
             boiler.say(word);
@@ -107,12 +106,19 @@ final class Terms2Receiving extends Group {
         for (int unit = 0; unit <= 9; unit++) {
             boiler.repair(unit).acknowledge(unit);
         }
+        return boiler;
+    }
+
+    private void receivesWhileStopped() {
+        Boiler boiler = receiveAllKinds(boiler("all kinds").cycle(Boiler.STOPPED));
         boiler.states(0, 1000, 0, 50, 0, 0, 0, 0, Boiler.STOPPED, 1).toldNothing();
         boiler.cycle(Boiler.STOPPED).states(0, 1000, 0, 50, 0, 0, 0, 0, Boiler.STOPPED, 2).toldNothing();
         for (Consumer<Boiler> wrong : refusedCalls()) {
             illegalArgument("refused while STOPPED, too", () -> wrong.accept(boiler));
         }
-        boiler.begin(CONSTANTS_OF_A_NEW_OBJECT).asNew().cycle(Boiler.STOPPED);
+        receiveAllKinds(boiler).begin(CONSTANTS_OF_A_NEW_OBJECT).asNew().cycle(Boiler.STOPPED);
+        // With steam WAITING would stop it, and so would READY without WAITING.
+        receiveAllKinds(boiler).begin(CONSTANTS_OF_A_NEW_OBJECT).quiet(500, 7).cycle(Boiler.INITIAL).toldNothing();
     }
 
     private static List<Consumer<Boiler>> refusedCalls() {
@@ -181,6 +187,7 @@ final class Terms2Receiving extends Group {
         histories.add(boiler -> boiler.startedPumping(300, 600).readings(620, 2, Boiler.ALL, Boiler.ALL)
                 .cycle(Boiler.NORMAL).commands(0, 15).quiet(615, 2));
         histories.add(boiler -> boiler.started(500).quiet(500, 3).cycle(Boiler.NORMAL).cycle(Boiler.STOPPED));
+        histories.add(boiler -> receiveAllKinds(boiler.quiet(500, 3).cycle(Boiler.INITIAL).cycle(Boiler.STOPPED)));
         return histories;
     }
 
